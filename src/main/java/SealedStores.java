@@ -310,7 +310,7 @@ public final class SealedStores {
         if (what < 0 || what > 2) {
             return INVALID_ARGUMENT;
         }
-        tryText();
+        log.tryOn(trial, ship);
         if (log.faultReason == 0) {
             return NOT_FOUND;
         }
@@ -325,18 +325,13 @@ public final class SealedStores {
     }
 
     public int play() {
-        tryText();
+        log.tryOn(trial, ship);
         if (log.faultReason != 0) {
             return NOT_POSSIBLE;
         }
         history.prepare(ship);
         ship.become(trial);
         return history.finish(log.ordersDone);
-    }
-
-    private void tryText() {
-        trial.become(ship);
-        log.runOn(trial);
     }
 
     private static int centsOrLimit(long cents) {
@@ -519,7 +514,11 @@ public final class SealedStores {
                 return LIMIT_REACHED;
             }
             releases.fines += fine;
-            taxMissing(locker);
+            for (int good = 0; good < goods; good++) {
+                int place = lockers.place(locker, good);
+                release(good, lockers.missing[place], TAXED);
+                lockers.missing[place] = 0;
+            }
             sealByOfficer(locker);
             return (int) pay;
         }
@@ -549,12 +548,9 @@ public final class SealedStores {
             if (day + days > LAST_DAY) {
                 return LIMIT_REACHED;
             }
-            long taxes = 0;
-            for (int i = 0; i < days; i++) {
-                day++;
-                taxes += runOutBonds();
-            }
-            return (int) taxes;
+            // Bonds run out in the order of their days, so all days at once come to the same as one by one.
+            day += days;
+            return (int) runOutBonds();
         }
 
         int changeSetting(int what, int value) {
@@ -581,8 +577,7 @@ public final class SealedStores {
 
         private long release(int good, int units, int reason) {
             long amount = bonds.amountOf(good, units, true);
-            releases.units[releases.place(good, reason)] += units;
-            releases.cents[reason] += amount;
+            releases.add(good, reason, units, amount);
             return amount;
         }
 
@@ -594,14 +589,6 @@ public final class SealedStores {
             return taxes;
         }
 
-        private void taxMissing(int locker) {
-            for (int good = 0; good < goods; good++) {
-                int place = lockers.place(locker, good);
-                release(good, lockers.missing[place], TAXED);
-                lockers.missing[place] = 0;
-            }
-        }
-
         private long runOutBonds() {
             long taxes = 0;
             for (int i = 0; i < bonds.number; i++) {
@@ -611,9 +598,11 @@ public final class SealedStores {
                 }
                 int good = bonds.good[bond];
                 int units = bonds.left[bond];
-                // The bond due first of all is also the first of its good, so a release empties just it.
-                taxes += release(good, units, TAXED);
+                long amount = bonds.held(bond);
+                bonds.left[bond] = 0;
+                releases.add(good, TAXED, units, amount);
                 lockers.takeFromAny(good, units);
+                taxes += amount;
             }
             return taxes;
         }
@@ -851,18 +840,19 @@ public final class SealedStores {
 
         /** The bond with units left that is released next after this one, or first of all after NONE. */
         int nextAfter(int ofGood, int previous) {
+            // One number for both: the day on which a bond is due, and its own number among those of a day.
+            int rankBefore = previous == NONE ? NONE : due[previous] * MOST_BONDS + previous;
             int next = NONE;
+            int nextRank = NONE;
             for (int bond = 0; bond < number; bond++) {
+                int bondRank = due[bond] * MOST_BONDS + bond;
                 boolean fits = left[bond] > 0 && (ofGood == ANY_GOOD || good[bond] == ofGood);
-                if (fits && (previous == NONE || isAhead(previous, bond)) && (next == NONE || isAhead(bond, next))) {
+                if (fits && bondRank > rankBefore && (next == NONE || bondRank < nextRank)) {
                     next = bond;
+                    nextRank = bondRank;
                 }
             }
             return next;
-        }
-
-        private boolean isAhead(int bond, int other) {
-            return due[bond] < due[other] || (due[bond] == due[other] && bond < other);
         }
 
         /** The amount that a release of these units sets free; it is carried out only if taking. */
@@ -905,6 +895,11 @@ public final class SealedStores {
 
         int place(int good, int reason) {
             return good * REASONS + reason;
+        }
+
+        void add(int good, int reason, int releasedUnits, long releasedCents) {
+            units[place(good, reason)] += releasedUnits;
+            cents[reason] += releasedCents;
         }
     }
 
@@ -990,8 +985,9 @@ public final class SealedStores {
             return old;
         }
 
-        /** Does the orders on the ship up to the first fault. */
-        void runOn(Ship ship) {
+        /** Does the orders up to the first fault on the trial, which is the ship at first. */
+        void tryOn(Ship trial, Ship ship) {
+            trial.become(ship);
             faultReason = 0;
             ordersDone = 0;
             position = 0;
@@ -1001,7 +997,7 @@ public final class SealedStores {
                     noteFault(start, REASON_FORM, NOT_FOUND);
                     return;
                 }
-                int answer = doOrder(ship);
+                int answer = doOrder(trial);
                 if (answer < 0) {
                     noteFault(start, REASON_CALL, answer);
                     return;

@@ -4,6 +4,7 @@ public final class LookingTest {
 
     public static void main(String[] args) {
         lockers();
+        lockersOfEightGoods();
         missing();
         seals();
         bonds();
@@ -22,6 +23,7 @@ public final class LookingTest {
         c.due(x.lockerOf(0, 11), 0);
         c.due(x.lockerOf(0, 12), -1);
         c.due(x.lockerOf(0, -1), -1);
+        c.due(x.lockerOf(0, Integer.MIN_VALUE), -1);
         c.due(x.lockerOf(2, 8), -1);
         c.due(x.lockerOf(-1, 8), -1);
         c.due(x.lockerOf(2, 9), -1);
@@ -41,6 +43,31 @@ public final class LookingTest {
         c.due(x.lockerOf(0, 10), 35);
         c.due(x.lockerOf(0, 11), 5);
         c.due(x.lockerOf(1, 11), 0);
+    }
+
+    private static void lockersOfEightGoods() {
+        SealedStores x = Scenes.empty();
+        for (int good = 2; good < 8; good++) {
+            x.good(good);
+        }
+        x.load(1, 7, 5);
+        c.due(x.lockerOf(1, 7), 5);
+        c.due(x.lockerOf(0, 7), 0);
+        c.due(x.lockerOf(1, 10), 5);
+        c.due(x.lockerOf(0, 12), -1);
+        c.due(x.lockerOf(0, -1), -1);
+        c.due(x.missing(1, 8), -1);
+        c.due(x.account(7, 1), 5);
+        c.due(x.account(8, 1), -1);
+        x.undo();
+        c.due(x.lockerOf(1, 7), 0);
+        c.due(x.account(7, 1), 0);
+        x.load(1, 7, 5);
+        c.due(x.bring(1, 7, 2), 14);
+        c.due(x.account(7, 4), 2);
+        x.undo();
+        c.due(x.account(7, 4), 0);
+        c.due(x.lockerOf(1, 7), 5);
     }
 
     private static void missing() {

@@ -10,6 +10,8 @@ public final class TextsTest {
         faultChangesNothing();
         plays();
         playsEachOrder();
+        playsWithSeals();
+        readsItsNumbers();
         playIsOneChange();
         c.end();
     }
@@ -152,6 +154,38 @@ public final class TextsTest {
         c.due(x.cents(6), 0);
         c.due(x.cents(5), 35);
         c.due(x.count(4), 9);
+    }
+
+    private static void playsWithSeals() {
+        SealedStores x = Scenes.empty();
+        Scenes.type(x, "d4;z1;z0;d3;z1;t1;z2;d2;c0;");
+        c.due(x.play(), 9);
+        c.due(x.count(4), 5);
+        int[] lockers = {0, 1, 0, 1, 0};
+        int[] days = {0, 0, 7, 7, 9};
+        int[] fates = {1, 1, 2, 3, 0};
+        for (int seal = 1; seal <= 5; seal++) {
+            c.due(x.seal(seal, 0), lockers[seal - 1]);
+            c.due(x.seal(seal, 1), days[seal - 1]);
+            c.due(x.seal(seal, 2), fates[seal - 1]);
+        }
+        c.due(x.lockerOf(0, 9), 5);
+        c.due(x.lockerOf(1, 8), 2);
+    }
+
+    private static void readsItsNumbers() {
+        SealedStores x = Scenes.loaded();
+        Scenes.type(x, "r1,0,12;r0,1,11;d0034;");
+        c.due(x.play(), 3);
+        c.due(x.count(6), 34);
+        c.due(x.account(0, 4), 12);
+        c.due(x.account(1, 4), 11);
+        SealedStores y = Scenes.empty();
+        y.load(1, 1, 9999);
+        Scenes.type(y, "r1,1,8765;r1,1,1234;");
+        c.due(y.play(), 2);
+        c.due(y.lockerOf(1, 1), 0);
+        c.due(y.cents(3), 9999 * 7);
     }
 
     private static void playIsOneChange() {
