@@ -497,7 +497,7 @@ public final class SealedStores {
                 return NOT_POSSIBLE;
             }
             lockers.state[locker] = TORN;
-            seals.fate[lockers.seal[locker]] = SEAL_TORN;
+            seals.end(lockers.seal[locker], SEAL_TORN);
             return lockers.seal[locker];
         }
 
@@ -615,7 +615,7 @@ public final class SealedStores {
         private void sealByOfficer(int locker) {
             // A torn seal stays torn: there is nothing left to take off.
             if (lockers.state[locker] == SEALED) {
-                seals.fate[lockers.seal[locker]] = SEAL_OFF_BY_OFFICER;
+                seals.end(lockers.seal[locker], SEAL_OFF_BY_OFFICER);
             }
             putSeal(locker);
         }
@@ -635,7 +635,7 @@ public final class SealedStores {
             int takenOff = 0;
             for (int locker = 0; locker < lockers.number; locker++) {
                 if (lockers.state[locker] == SEALED) {
-                    seals.fate[lockers.seal[locker]] = SEAL_OFF_AT_SEA;
+                    seals.end(lockers.seal[locker], SEAL_OFF_AT_SEA);
                     takenOff++;
                 }
                 lockers.state[locker] = OPEN;
@@ -749,6 +749,12 @@ public final class SealedStores {
             fate[used] = SEAL_ON_LOCKER;
             return used;
         }
+
+        void end(int seal, int newFate) {
+            if (seal >= 1 && seal <= used) {
+                fate[seal] = newFate;
+            }
+        }
     }
 
     private static final class Bonds {
@@ -841,7 +847,8 @@ public final class SealedStores {
         /** The bond with units left that is released next after this one, or first of all after NONE. */
         int nextAfter(int ofGood, int previous) {
             // One number for both: the day on which a bond is due, and its own number among those of a day.
-            int rankBefore = previous == NONE ? NONE : due[previous] * MOST_BONDS + previous;
+            boolean fromTheFirst = previous < 0 || previous >= number;
+            int rankBefore = fromTheFirst ? NONE : due[previous] * MOST_BONDS + previous;
             int next = NONE;
             int nextRank = NONE;
             for (int bond = 0; bond < number; bond++) {

@@ -139,6 +139,10 @@ final class EdgesOfAccounts extends Edges {
             .after(LOADED).after(TO_SEA).after("smash(0, 0, 10, 0)").due("worth(0, 30)", 3000)
             .due("worth(0, 31)", NOT_FOUND).after("pass(31)").due("worth(0, 1)", NOT_FOUND);
         promise(23, "Returns the amount;")
+            .after(EMPTY).times(60, "load(0, 0, 1)").due("worth(0, 60)", 6000).due("worth(0, 61)", NOT_FOUND)
+            .due("worth(1, 1)", NOT_FOUND).due("toPay()", 0).due("runsOut()", 31).after(TO_SEA)
+            .after("smash(0, 0, 60, 0)").due("toPay()", 6000).due("worth(0, 60)", 6000);
+        promise(23, "Returns the amount;")
             .after("locker()", "good(1000000)", "load(0, 0, 2147)", "duty(0, 1000)", "load(0, 0, 483)", "duty(0, 1)")
             .after("load(0, 0, 647)").due("worth(0, 3277)", MOST).due("worth(0, 3276)", MOST - 1)
             .due("worth(0, 3278)", NOT_FOUND);

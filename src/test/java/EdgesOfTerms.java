@@ -12,9 +12,11 @@ final class EdgesOfTerms extends Edges {
         releases();
         whatBecomesOfGoods();
         counting();
+        countingOfTheLast();
         daysThatGoBy();
         settings();
         changes();
+        changesOfTheLast();
         history();
         invalidFirst();
         notPossibleFirst();
@@ -205,24 +207,80 @@ final class EdgesOfTerms extends Edges {
         return run.times(4, "pass(1)").times(4, "undo()").due("count(9)", 0);
     }
 
+    /** One state is in the history; the next state that is recorded is none that was recorded before. */
+    private static Run withOneState(Run run) {
+        return withoutHistory(run).after("set(0, 4321)").due("count(9)", 1);
+    }
+
     private void changes() {
         String sentence = "The changes are the calls of locker, good, duty, load, use, bring, smash, tear, inspect, "
             + "cross, pass, set and play that return no error.";
-        withoutHistory(terms(sentence).after(LOADED)).undone("locker()", 2).undone("good(1)", 2)
-            .undone("duty(0, 100)", 100).undone("duty(0, 9)", 100).undone("load(0, 0, 1)", 3)
-            .undone("bring(0, 0, 1)", 100).undone("tear(0)", 5).undone("inspect(0)", 0).undone("cross(1)", 0)
-            .undone("pass(1)", 0).undone("pass(60)", 3210).undone("set(0, 5000)", 5000).undone("set(0, 1)", 5000)
-            .undone("set(1, 30)", 30).undone("set(1, 1)", 30).undone("play()", 0).types("z1;z0;u0,0,1;b0,0,1,1;d60;")
-            .undone("play()", 5).due("count(10)", 26);
-        withoutHistory(terms(sentence).after(LOADED).after(TO_SEA)).undone("use(0, 0, 1)", 100)
-            .undone("smash(0, 0, 1, 0)", 0).undone("smash(0, 0, 1, 1)", 100).undone("cross(1)", 2)
-            .undone("good(1)", 2).undone("pass(31)", 3210);
+        String[] changes = {"locker()", "good(1)", "duty(0, 100)", "duty(0, 9)", "load(0, 0, 1)", "bring(0, 0, 1)",
+            "tear(0)", "inspect(0)", "inspect(1)", "cross(1)", "pass(1)", "pass(60)", "set(0, 4321)", "set(0, 1)",
+            "set(1, 30)", "set(1, 1)", "play()"};
+        int[] answers = {2, 2, 100, 100, 3, 100, 5, 0, 4321, 0, 0, 3210, 4321, 4321, 30, 30, 0};
+        for (int i = 0; i < changes.length; i++) {
+            withOneState(terms(sentence).after(LOADED).after("tear(1)")).undone(changes[i], answers[i]);
+        }
+        String[] atSea = {"use(0, 0, 1)", "smash(0, 0, 1, 0)", "smash(0, 0, 1, 1)", "cross(1)", "pass(31)", "good(1)",
+            "duty(1, 1)", "set(1, 99)"};
+        int[] answersAtSea = {100, 0, 100, 2, 3210, 2, 7, 30};
+        for (int i = 0; i < atSea.length; i++) {
+            withOneState(terms(sentence).after(LOADED).after(TO_SEA)).undone(atSea[i], answersAtSea[i]);
+        }
+        withOneState(terms(sentence).after(LOADED)).types("t0;c0;z1;z0;u0,0,1;b0,0,1,1;b0,0,1,0;d60;")
+            .undone("play()", 8).due("count(10)", 41);
         withoutHistory(terms(sentence).after(LOADED)).due("locker()", 2).due("good(1)", 2).due("duty(2, 2)", 1)
             .due("load(2, 2, 3)", 3).due("count(9)", 4).due("undo()", 3).due("undo()", 2).due("undo()", 1)
             .due("undo()", 0).due("count(0)", 2).due("count(1)", 2);
         withoutHistory(terms(sentence).after(LOADED)).types("d1;x").due("count(9)", 0).after("clearText()")
             .due("undo()", NOT_POSSIBLE).due("toPay()", 0).due("runsOut()", 31).due("worth(0, 1)", 100)
             .due("load(0, 0, 0)", INVALID).due("play()", 0).due("count(9)", 1);
+    }
+
+    /** Where the greatest numbers stand: five lockers, eight goods, sixty bonds, two hundred seals. */
+    private void changesOfTheLast() {
+        String sentence = "each change records everything before it but the text";
+        String[] changes = {"use(4, 7, 1)", "smash(4, 7, 1, 0)", "smash(4, 7, 1, 9)", "use(0, 3, 1)", "cross(1)"};
+        int[] answers = {8, 0, 8, 4, 5};
+        for (int i = 0; i < changes.length; i++) {
+            withOneState(fiveTimesEight(terms(sentence)).after(TO_SEA)).undone(changes[i], answers[i]);
+        }
+        withOneState(fiveTimesEight(terms(sentence))).undone("bring(4, 7, 2)", 16).undone("duty(7, 1)", 8)
+            .undone("pass(60)", 360).undone("tear(4)", 45);
+        withOneState(fiveTimesEight(terms(sentence)).after(TO_SEA).after("smash(4, 7, 2, 0)").after(TO_PORT))
+            .undone("inspect(4)", 16).undone("pass(60)", 360);
+        withOneState(terms(sentence).after(EMPTY).times(59, "load(0, 0, 1)")).undone("load(1, 1, 9)", 59)
+            .due("load(1, 0, 2)", 59).undone("bring(1, 0, 1)", 100).undone("bring(0, 0, 59)", 5900);
+        fewSeals(terms(sentence), 2).after("pass(3)", "locker()", "pass(4)", "inspect(1)").times(2, "undo()")
+            .after("pass(1)", "inspect(0)").due("seal(200, 0)", 0).due("seal(200, 1)", 4).due("seal(199, 0)", 1)
+            .after("undo()").undone("tear(1)", 199).undone("inspect(1)", 0).undone("tear(0)", 198);
+        withoutHistory(fewSeals(terms(sentence), 1)).after("pass(3)", "locker()", "undo()", "undo()")
+            .after("pass(1)", "locker()").due("seal(200, 1)", 1).due("seal(200, 0)", 1)
+            .undone("tear(1)", 200).undone("cross(1)", 0);
+    }
+
+    /** Units of each of eight goods in each of five lockers, all bonds due on the day 30. */
+    private static Run fiveTimesEight(Run run) {
+        run.times(5, "locker()");
+        for (int good = 0; good < 8; good++) {
+            run.after("good(" + (good + 1) + ")");
+            for (int locker = 0; locker < 5; locker++) {
+                run.after("load(" + locker + ", " + good + ", 2)");
+            }
+        }
+        return run.due("count(3)", 40);
+    }
+
+    private void countingOfTheLast() {
+        Run run = fiveTimesEight(terms("All units that are missing from this locker are taxed:")).after(TO_SEA);
+        for (int locker = 0; locker < 5; locker++) {
+            run.after("smash(" + locker + ", 0, 2, 0)", "smash(" + locker + ", 7, 1, 0)");
+        }
+        run.due("toPay()", 50).after(TO_PORT).due("inspect(0)", 10).due("missing(1, 0)", 2).due("missing(0, 0)", 0)
+            .due("missing(0, 7)", 0).due("missing(1, 7)", 1).due("inspect(3)", 10).due("missing(4, 0)", 2)
+            .due("inspect(4)", 10).due("missing(4, 7)", 0).due("account(0, 2)", 4).due("account(7, 2)", 2)
+            .due("account(7, 1)", 5).due("account(7, 6)", 3).due("lockerOf(4, 10)", 13).due("toPay()", 20);
     }
 
     private void history() {

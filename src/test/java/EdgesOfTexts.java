@@ -71,6 +71,16 @@ final class EdgesOfTexts extends Edges {
             .due("lockerOf(1, 8)", 2).due("lockerOf(0, 8)", 1).due("count(6)", 2).due("count(5)", 2)
             .due("cents(5)", 35).due("count(4)", 9).due("play()", 11).due("count(10)", 53)
             .due("count(6)", 4);
+        promise(29, "Does all orders of the text, which stays.")
+            .after(EMPTY).types("d4;z1;z0;d3;z1;t1;z2;d2;c0;").due("play()", 9).due("count(4)", 5)
+            .due("seal(1, 2)", 1).due("seal(2, 2)", 1).due("seal(3, 0)", 0).due("seal(3, 1)", 7).due("seal(3, 2)", 2)
+            .due("seal(4, 0)", 1).due("seal(4, 1)", 7).due("seal(4, 2)", 3).due("seal(5, 0)", 0).due("seal(5, 1)", 9)
+            .due("seal(5, 2)", 0).due("lockerOf(0, 9)", 5).due("lockerOf(1, 8)", 2);
+        fewSeals(promise(29, "Does all orders of the text, which stays."), 3).after("locker()")
+            .types("d7;c1;d1;t1;c1;").due("play()", 5).due("seal(198, 2)", 2).due("seal(199, 0)", 1)
+            .due("seal(199, 1)", 7).due("seal(199, 2)", 3).due("seal(200, 0)", 1).due("seal(200, 1)", 8)
+            .due("seal(200, 2)", 0).due("lockerOf(1, 9)", 200).due("cents(6)", 5000).due("play()", NOT_POSSIBLE)
+            .due("fault(0)", 3).due("fault(2)", LIMIT);
         promise(29, "They are one change, also if there are none.")
             .due("play()", 0).due("count(9)", 1).types("z1;d5;z0;").due("play()", 3).due("count(9)", 2)
             .due("undo()", 1).due("count(5)", 2).due("count(6)", 0).due("count(10)", 9).due("undo()", 0)

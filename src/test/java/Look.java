@@ -102,6 +102,7 @@ final class Look {
         int goods = x().count(1);
         for (int good = 0; good < goods; good++) {
             told.add(x().nextBond(good));
+            told.add(x().worth(good, 1));
             for (int what = 0; what <= 6; what++) {
                 told.add(x().account(good, what));
             }

@@ -14,6 +14,8 @@ final class Run {
     private final List<Call> calls = new ArrayList<>();
     /** All that is told of the present state, or null if nobody has looked since the last change. */
     private List<Integer> told;
+    /** After a wrong answer the rest of the run tells nothing new. */
+    private boolean wrong;
 
     Run(Checks checks, String sentence) {
         this.checks = checks;
@@ -74,7 +76,7 @@ final class Run {
 
     /** A change that is undone: everything is as it was. Only for histories that are not full. */
     Run undone(String change, int answer) {
-        int states = x.count(9);
+        int states = make(new Call("count(9)"));
         List<Integer> before = everything();
         due(change, answer).due("count(9)", states + 1).due("undo()", states);
         holds(everything().equals(before), change + " was not undone wholly");
@@ -96,6 +98,24 @@ final class Run {
     }
 
     private void holds(boolean condition, String what) {
-        checks.holds(condition, sentence + " -- " + what + " -- the calls: " + calls);
+        if (!wrong) {
+            checks.holds(condition, condition ? "" : sentence + " -- " + what + " -- the calls:" + tellCalls());
+        }
+        wrong |= !condition;
+    }
+
+    private String tellCalls() {
+        StringBuilder text = new StringBuilder();
+        int same = 1;
+        for (int i = 0; i < calls.size(); i++) {
+            String call = calls.get(i).toString();
+            if (i + 1 < calls.size() && calls.get(i + 1).toString().equals(call)) {
+                same++;
+                continue;
+            }
+            text.append(' ').append(same > 1 ? same + " x " : "").append(call);
+            same = 1;
+        }
+        return text.toString();
     }
 }
