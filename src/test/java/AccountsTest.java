@@ -11,8 +11,6 @@ public final class AccountsTest {
         keepsFourStates();
         errorsAreNoChanges();
         undoRestoresEverything();
-        undoRestoresAfterEachChange();
-        undoRestoresTheLastSeals();
         countsBondsWithOneUnit();
         c.end();
     }
@@ -203,64 +201,6 @@ public final class AccountsTest {
         c.due(x.count(6), 0);
         c.due(x.count(3), 3);
         c.due(x.count(10), 3);
-    }
-
-    private static void undoRestoresAfterEachChange() {
-        SealedStores x = Scenes.loaded();
-        x.inspect(1);
-        x.pass(1);
-        restores(x, aDayLater(x), x.locker());
-        restores(x, aDayLater(x), x.good(9));
-        restores(x, aDayLater(x), x.duty(0, 9));
-        restores(x, aDayLater(x), x.load(1, 1, 9));
-        restores(x, aDayLater(x), x.bring(1, 0, 9));
-        restores(x, aDayLater(x), x.tear(1));
-        restores(x, aDayLater(x), x.inspect(1));
-        restores(x, aDayLater(x), x.cross(1));
-        restores(x, aDayLater(x), x.pass(40));
-        restores(x, aDayLater(x), x.set(0, 9));
-        restores(x, aDayLater(x), x.set(1, 9));
-        Scenes.toSea(x);
-        restores(x, aDayLater(x), x.use(1, 0, 9));
-        restores(x, aDayLater(x), x.smash(1, 0, 9, 1));
-        restores(x, aDayLater(x), x.smash(1, 0, 9, 0));
-        restores(x, aDayLater(x), x.cross(1));
-        x.smash(0, 0, 3, 0);
-        Scenes.toPort(x);
-        x.tear(0);
-        restores(x, aDayLater(x), x.inspect(0));
-        Scenes.type(x, "c0;r1,0,5;d50;z1;");
-        restores(x, aDayLater(x), x.play());
-    }
-
-    /** A day goes by, so that the state before the next change is in no place of the history yet. */
-    private static String aDayLater(SealedStores x) {
-        x.pass(1);
-        return Scenes.all(x);
-    }
-
-    private static void restores(SealedStores x, String before, int answer) {
-        c.due(answer < 0 ? answer : 0, 0);
-        int states = x.count(9);
-        c.due(x.undo(), states - 1);
-        c.due(Scenes.all(x).equals(before) ? 1 : 0, 1);
-    }
-
-    private static void undoRestoresTheLastSeals() {
-        SealedStores x = Scenes.withSealsLeft(2);
-        x.locker();
-        x.pass(9);
-        x.inspect(1);
-        String full = Scenes.all(x);
-        c.due(x.count(4), 200);
-        x.tear(1);
-        x.undo();
-        c.holds(full.equals(Scenes.all(x)), "the last seals are restored");
-        c.due(x.seal(200, 0), 1);
-        c.due(x.seal(200, 1), 9);
-        c.due(x.seal(199, 0), 1);
-        c.due(x.seal(199, 2), 2);
-        c.due(x.lockerOf(1, 9), 200);
     }
 
     private static void countsBondsWithOneUnit() {

@@ -573,6 +573,15 @@ final class Model {
         return answer;
     }
 
+    /** Whether this text would have no fault. */
+    boolean plays(String orders) {
+        String kept = text;
+        text = orders;
+        boolean faultless = fault(0) == -4;
+        text = kept;
+        return faultless;
+    }
+
     int play() {
         State before = now;
         now = now.copy();

@@ -1,22 +1,30 @@
+import java.util.ArrayList;
+import java.util.Arrays;
+import java.util.List;
 import java.util.Random;
+import java.util.stream.Collectors;
 
-/** All promises: long runs of calls, the same each time, answered as the plain model answers them. */
+/** All promises: runs of up to 512 calls, the same each time, answered as the plain model answers them. */
 public final class ModelTest {
     private static final String[] CHANGES = {"locker", "good", "duty", "load", "use", "bring", "smash", "tear",
         "inspect", "cross", "pass", "set"};
     /** What fits in the zones 0, 1, 2. */
     private static final String[][] FITTING = {{"use", "smash", "smash", "use", "cross", "pass"},
         {"cross", "cross", "tear"}, {"load", "load", "bring", "inspect", "tear", "cross", "locker", "good", "load"}};
+    /** An object is used for at most 512 calls; the last step may make 70 more, and the look needs some, too. */
+    private static final int MOST_CALLS = 512;
+    private static final int MOST_BEFORE_A_STEP = 400;
     private static final Checks c = new Checks("ModelTest");
 
     private final Random random;
-    private final SealedStores x = new SealedStores();
     private final Model model = new Model();
-    private final StringBuilder calls = new StringBuilder();
-    /** How a run leans: great duties, many bonds, many seals, or long times. */
+    private final List<Call> calls = new ArrayList<>();
+    private final List<Integer> answers = new ArrayList<>();
+    /** How a run leans: great duties, many bonds, many seals, long times, or texts. */
     private final int leaning;
+    private SealedStores x = new SealedStores();
+    private int made;
     private boolean good = true;
-    private boolean looking;
 
     private ModelTest(int run) {
         random = new Random(run);
@@ -24,35 +32,79 @@ public final class ModelTest {
     }
 
     public static void main(String[] args) {
-        int runs = args.length > 0 ? Integer.parseInt(args[0]) : 400;
+        int runs = args.length > 0 ? Integer.parseInt(args[0]) : 1000;
         for (int run = 0; run < runs; run++) {
             new ModelTest(run).play(run);
         }
         c.end();
     }
 
+    /** Runs end early, too: what they lead to is looked at as a whole only then. */
     private void play(int run) {
-        // Seals are used up late, so the runs that lean to them are longer.
-        int steps = leaning == 2 ? 1200 : 500;
-        for (int call = 0; call < steps && good; call++) {
+        int most = run % 2 == 0 ? MOST_BEFORE_A_STEP : 10 + upTo(MOST_BEFORE_A_STEP - 10);
+        begin();
+        while (made < most && good) {
             step();
-            if (call % 20 == 0) {
-                looking = true;
-                look();
-                looking = false;
-            }
         }
-        c.holds(good, "run " + run + ": " + calls);
+        if (good) {
+            look();
+        }
+        c.holds(good, good ? "" : "run " + run + ":" + tellCalls());
     }
 
-    private void same(String call, int got, int want) {
-        if (good && (got != want || !looking)) {
-            calls.append(call).append(" = ").append(want).append("; ");
+    /** Most runs begin with lockers and goods, or they would tell little but that there are none. */
+    private void begin() {
+        for (int lockers = upTo(5); lockers > 0; lockers--) {
+            same("locker()", model.change("locker", 0, 0, 0, 0));
         }
-        if (got != want) {
-            calls.append("but answered ").append(got);
-            good = false;
+        for (int goods = upTo(4); goods > 0; goods--) {
+            int duty = aDuty();
+            same("good(" + duty + ")", model.change("good", duty, 0, 0, 0));
         }
+    }
+
+    private void same(String written, int want) {
+        if (good) {
+            make(new Call(written), want);
+        }
+    }
+
+    private void make(Call call, int want) {
+        int got = call.on(x);
+        made++;
+        calls.add(call);
+        answers.add(got);
+        good = got == want;
+        if (!good) {
+            System.out.println(call + " answered " + got + ", due is " + want);
+        }
+    }
+
+    /** A look may come after the last call that an object is used for: then the run is made again on a new one. */
+    private void seen(String written, int want) {
+        if (!good) {
+            return;
+        }
+        if (made == MOST_CALLS) {
+            x = new SealedStores();
+            for (Call call : calls) {
+                call.on(x);
+            }
+            made = calls.size();
+        }
+        make(new Call(written), want);
+        if (good) {
+            calls.remove(calls.size() - 1);
+            answers.remove(answers.size() - 1);
+        }
+    }
+
+    private String tellCalls() {
+        StringBuilder told = new StringBuilder();
+        for (int i = 0; i < calls.size(); i++) {
+            told.append(' ').append(calls.get(i)).append(" = ").append(answers.get(i)).append(';');
+        }
+        return told.toString();
     }
 
     private int upTo(int most) {
@@ -92,32 +144,33 @@ public final class ModelTest {
 
     private void step() {
         int kind = random.nextInt(100);
-        if (kind < 70) {
-            change();
-        } else if (kind < 75) {
-            same("undo()", x.undo(), model.undo());
-        } else if (kind < 81) {
+        if (kind < (leaning == 4 ? 10 : 2)) {
             writeAndPlay();
-        } else {
+        } else if (kind < 15) {
             lookOnce();
+        } else if (kind < 20) {
+            same("undo()", model.undo());
+        } else {
+            change();
         }
     }
 
     private void change() {
         String call = aChange();
         int[] a = argumentsOf(call);
-        same(call + "(" + a[0] + ", " + a[1] + ", " + a[2] + ", " + a[3] + ")", call(call, a),
-            model.change(call, a[0], a[1], a[2], a[3]));
+        int[] four = Arrays.copyOf(a, 4);
+        String inside = Arrays.stream(a).mapToObj(String::valueOf).collect(Collectors.joining(", "));
+        same(call + "(" + inside + ")", model.change(call, four[0], four[1], four[2], four[3]));
     }
 
     private String aChange() {
-        if (leaning == 1 && random.nextInt(3) == 0) {
-            return "load";
+        if (leaning == 1 && random.nextInt(2) == 0) {
+            return model.count(5) == 2 ? "load" : "cross";
         }
-        if (leaning == 2 && random.nextInt(3) == 0) {
-            return model.count(5) == 0 ? "smash" : "inspect";
+        if (leaning == 2 && random.nextInt(4) != 0) {
+            return model.count(5) == 2 && random.nextInt(8) != 0 ? "inspect" : "cross";
         }
-        if (leaning == 3 && random.nextInt(3) == 0) {
+        if (leaning == 3 && random.nextInt(2) == 0) {
             return "pass";
         }
         String[] fitting = FITTING[model.count(5)];
@@ -139,28 +192,30 @@ public final class ModelTest {
         int aGood = aGood();
         switch (call) {
             case "good":
-                return new int[] {aDuty(), 0, 0, 0};
+                return new int[] {aDuty()};
             case "duty":
-                return new int[] {aGood, aDuty(), 0, 0};
+                return new int[] {aGood, aDuty()};
             case "load":
-                return new int[] {locker, aGood, leaning == 0 || leaning == 4 ? about(1, 9999) : about(1, 20), 0};
+                return new int[] {locker, aGood, leaning == 0 || leaning == 4 ? about(1, 9999) : about(1, 20)};
             case "use":
             case "bring":
             case "smash":
                 int[] stock = aStock();
-                return new int[] {stock[0], stock[1], units(stock[0], stock[1]), random.nextInt(2) * about(0, 9)};
+                int units = units(stock[0], stock[1]);
+                return call.equals("smash") ? new int[] {stock[0], stock[1], units, random.nextInt(2) * about(0, 9)}
+                    : new int[] {stock[0], stock[1], units};
             case "tear":
             case "inspect":
-                return new int[] {locker, 0, 0, 0};
+                return new int[] {locker};
             case "cross":
                 int zone = model.count(5);
-                return new int[] {random.nextInt(3) == 0 ? about(0, 2) : zone == 1 ? upTo(1) * 2 : 1, 0, 0, 0};
+                return new int[] {random.nextInt(3) == 0 ? about(0, 2) : zone == 1 ? upTo(1) * 2 : 1};
             case "pass":
-                return new int[] {leaning == 3 && random.nextInt(2) == 0 ? 60 : about(1, 3), 0, 0, 0};
+                return new int[] {leaning == 3 && random.nextInt(3) != 0 ? 60 : about(1, 3)};
             case "set":
-                return random.nextBoolean() ? new int[] {0, about(0, 100000), 0, 0} : new int[] {1, about(1, 40), 0, 0};
+                return random.nextBoolean() ? new int[] {0, about(0, 100000)} : new int[] {1, about(1, 40)};
             default:
-                return new int[4];
+                return new int[0];
         }
     }
 
@@ -168,53 +223,28 @@ public final class ModelTest {
         return leaning == 0 ? about(1, 1000000) : about(1, 30);
     }
 
-    private int call(String call, int[] a) {
-        switch (call) {
-            case "locker":
-                return x.locker();
-            case "good":
-                return x.good(a[0]);
-            case "duty":
-                return x.duty(a[0], a[1]);
-            case "load":
-                return x.load(a[0], a[1], a[2]);
-            case "use":
-                return x.use(a[0], a[1], a[2]);
-            case "bring":
-                return x.bring(a[0], a[1], a[2]);
-            case "smash":
-                return x.smash(a[0], a[1], a[2], a[3]);
-            case "tear":
-                return x.tear(a[0]);
-            case "inspect":
-                return x.inspect(a[0]);
-            case "cross":
-                return x.cross(a[0]);
-            case "pass":
-                return x.pass(a[0]);
-            default:
-                return x.set(a[0], a[1]);
-        }
-    }
-
     private void writeAndPlay() {
         if (random.nextInt(4) != 0) {
-            same("clearText()", x.clearText(), model.clearText());
+            same("clearText()", model.clearText());
         }
         StringBuilder text = new StringBuilder();
         for (int orders = random.nextInt(8); orders > 0; orders--) {
-            text.append(anOrder());
+            String order = anOrder();
+            for (int i = 0; i < 20 && random.nextInt(40) != 0 && !model.plays(text + order); i++) {
+                order = anOrder();
+            }
+            text.append(order);
         }
         if (random.nextInt(10) == 0 && text.length() > 0) {
             text.setCharAt(random.nextInt(text.length()), "z0,;b u9".charAt(random.nextInt(8)));
         }
         for (int i = 0; i < text.length(); i++) {
-            same("type(" + text.charAt(i) + ")", x.type(text.charAt(i)), model.type(text.charAt(i)));
+            same("type(" + (int) text.charAt(i) + ")", model.type(text.charAt(i)));
         }
         for (int what = 0; what < 3; what++) {
-            same("fault(" + what + ")", x.fault(what), model.fault(what));
+            same("fault(" + what + ")", model.fault(what));
         }
-        same("play()", x.play(), model.play());
+        same("play()", model.play());
     }
 
     private String anOrder() {
@@ -245,70 +275,87 @@ public final class ModelTest {
         switch (random.nextInt(13)) {
             case 0:
                 int what = about(0, 11);
-                same("lockerOf(" + a + ", " + what + ")", x.lockerOf(a, what), model.lockerOf(a, what));
+                same("lockerOf(" + a + ", " + what + ")", model.lockerOf(a, what));
                 break;
             case 1:
-                same("missing(" + a + ", " + b + ")", x.missing(a, b), model.missing(a, b));
+                same("missing(" + a + ", " + b + ")", model.missing(a, b));
                 break;
             case 2:
                 int seal = about(1, model.count(4));
                 int ofSeal = about(0, 2);
-                same("seal(" + seal + ", " + ofSeal + ")", x.seal(seal, ofSeal), model.seal(seal, ofSeal));
+                same("seal(" + seal + ", " + ofSeal + ")", model.seal(seal, ofSeal));
                 break;
             case 3:
                 int bond = about(0, model.count(2) - 1);
                 int ofBond = about(0, 5);
-                same("bond(" + bond + ", " + ofBond + ")", x.bond(bond, ofBond), model.bond(bond, ofBond));
+                same("bond(" + bond + ", " + ofBond + ")", model.bond(bond, ofBond));
                 break;
             case 4:
-                same("nextBond(" + b + ")", x.nextBond(b), model.nextBond(b));
+                same("nextBond(" + b + ")", model.nextBond(b));
                 break;
             case 5:
                 int ofGood = about(0, 6);
-                same("account(" + b + ", " + ofGood + ")", x.account(b, ofGood), model.account(b, ofGood));
+                same("account(" + b + ", " + ofGood + ")", model.account(b, ofGood));
                 break;
             case 6:
                 int ofCents = about(0, 6);
-                same("cents(" + ofCents + ")", x.cents(ofCents), model.cents(ofCents));
+                same("cents(" + ofCents + ")", model.cents(ofCents));
                 break;
             case 7:
                 int counted = about(0, 21);
-                same("count(" + counted + ")", x.count(counted), model.count(counted));
+                same("count(" + counted + ")", model.count(counted));
                 break;
             case 8:
             case 9:
                 int units = about(1, Math.max(model.account(b, 1), 1));
-                same("worth(" + b + ", " + units + ")", x.worth(b, units), model.worth(b, units));
+                same("worth(" + b + ", " + units + ")", model.worth(b, units));
                 break;
             case 10:
-                same("toPay()", x.toPay(), model.toPay());
+                same("toPay()", model.toPay());
                 break;
             case 11:
-                same("runsOut()", x.runsOut(), model.runsOut());
+                same("runsOut()", model.runsOut());
                 break;
             default:
                 int ofFault = about(0, 2);
-                same("fault(" + ofFault + ")", x.fault(ofFault), model.fault(ofFault));
+                same("fault(" + ofFault + ")", model.fault(ofFault));
         }
     }
 
     private void look() {
         for (int what = -1; what <= 22; what++) {
-            same("count(" + what + ")", x.count(what), model.count(what));
-            same("cents(" + what + ")", x.cents(what), model.cents(what));
-            for (int i = -1; i <= 8; i++) {
-                same("lockerOf(" + i + ", " + what + ")", x.lockerOf(i, what), model.lockerOf(i, what));
-                same("account(" + i + ", " + what + ")", x.account(i, what), model.account(i, what));
-                same("missing(" + i + ", " + what + ")", x.missing(i, what), model.missing(i, what));
+            seen("count(" + what + ")", model.count(what));
+        }
+        for (int what = -1; what <= 7; what++) {
+            seen("cents(" + what + ")", model.cents(what));
+        }
+        for (int locker = -1; locker <= model.count(0); locker++) {
+            for (int what = -1; what <= 12; what++) {
+                seen("lockerOf(" + locker + ", " + what + ")", model.lockerOf(locker, what));
+                seen("missing(" + locker + ", " + what + ")", model.missing(locker, what));
             }
         }
-        for (int i = 0; i <= 201; i++) {
-            for (int what = -1; what <= 6; what++) {
-                same("seal(" + i + ", " + what + ")", x.seal(i, what), model.seal(i, what));
-                same("bond(" + i + ", " + what + ")", x.bond(i, what), model.bond(i, what));
+        for (int good = -1; good <= model.count(1); good++) {
+            for (int what = -1; what <= 7; what++) {
+                seen("account(" + good + ", " + what + ")", model.account(good, what));
+            }
+            seen("nextBond(" + good + ")", model.nextBond(good));
+        }
+        lookAtSealsAndBonds();
+        seen("toPay()", model.toPay());
+        seen("runsOut()", model.runsOut());
+    }
+
+    private void lookAtSealsAndBonds() {
+        for (int seal = 0; seal <= model.count(4) + 1; seal++) {
+            for (int what = 0; what <= 2; what++) {
+                seen("seal(" + seal + ", " + what + ")", model.seal(seal, what));
             }
         }
-        same("toPay()", x.toPay(), model.toPay());
-        same("runsOut()", x.runsOut(), model.runsOut());
+        for (int bond = -1; bond <= model.count(2); bond++) {
+            for (int what = 0; what <= 5; what++) {
+                seen("bond(" + bond + ", " + what + ")", model.bond(bond, what));
+            }
+        }
     }
 }

@@ -18,13 +18,13 @@ public final class RoomTest {
         call(x);
         long called = threads.getThreadAllocatedBytes(id);
         c.holds(made - start < 100000, "an object takes " + (made - start) + " bytes");
-        c.holds(called - made < 20000, "500 calls take " + (called - made) + " bytes");
+        c.holds(called - made < 20000, "450 calls take " + (called - made) + " bytes");
         c.end();
     }
 
     private static void call(SealedStores x) {
         Scenes.type(x, "d1;z1;z0;b0,0,1,0;u0,0,1;z1;z2;c0;d1;r0,0,1;");
-        for (int i = 0; i < 100; i++) {
+        for (int i = 0; i < 80; i++) {
             x.play();
             x.fault(0);
             x.undo();

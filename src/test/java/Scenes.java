@@ -68,20 +68,4 @@ final class Scenes {
         x.load(0, 2, 647);
         return x;
     }
-
-    /** All that can be asked of an object, but the number of states in its history. */
-    static String all(SealedStores x) {
-        StringBuilder told = new StringBuilder();
-        for (int what = 0; what <= 21; what++) {
-            told.append(what == 9 ? 0 : x.count(what)).append(' ').append(x.cents(what)).append(' ');
-            for (int i = 0; i < 8; i++) {
-                told.append(x.lockerOf(i, what)).append(' ').append(x.account(i, what)).append(' ');
-                told.append(x.missing(i, what)).append(' ');
-            }
-            for (int i = 0; i <= 200; i++) {
-                told.append(x.seal(i, what)).append(' ').append(x.bond(i, what)).append(' ');
-            }
-        }
-        return told.append(x.toPay()).append(' ').append(x.runsOut()).toString();
-    }
 }

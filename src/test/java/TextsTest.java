@@ -53,14 +53,14 @@ public final class TextsTest {
     }
 
     private static void faultsOfForm() {
-        SealedStores x = Scenes.loaded();
         String[] texts = {"z", "z1", "z;", "z1,", "z1,2;", "z00001;", "Z1;", " z1;", "z 1;", "z1 ;", "z-1;", "z1:",
             "u0,0;", "u0,0,1", "u0,0,1,1;", "u0,,1;", "u,0,1;", "r0;", "b0,0,1;", "b0,0,1,1", "b0,0,1,1,1;", "t;",
             "t0,0;", "c", "c0", "d12345;", "d", "x1;", ";", "1;", "~", "l0;", "u0;0;1;"};
         for (String text : texts) {
-            isFault(x, text, 0, 1, -4);
-            isFault(x, "d1;" + text, 3, 1, -4);
+            isFault(Scenes.loaded(), text, 0, 1, -4);
+            isFault(Scenes.loaded(), "d1;" + text, 3, 1, -4);
         }
+        SealedStores x = Scenes.loaded();
         isFault(x, "d1;;", 3, 1, -4);
         isFault(x, "d1;d1; ", 6, 1, -4);
         c.due(x.fault(3), -1);
