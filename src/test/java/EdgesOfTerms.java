@@ -252,6 +252,8 @@ final class EdgesOfTerms extends Edges {
             .undone("inspect(4)", 16).undone("pass(60)", 360);
         withOneState(terms(sentence).after(EMPTY).times(59, "load(0, 0, 1)")).undone("load(1, 1, 9)", 59)
             .due("load(1, 0, 2)", 59).undone("bring(1, 0, 1)", 100).undone("bring(0, 0, 59)", 5900);
+        withOneState(terms(sentence).after(EMPTY).times(59, "load(0, 0, 1)").after("load(1, 1, 9)"))
+            .undone("bring(1, 1, 4)", 28).undone("pass(31)", 5963).undone("play()", 0).due("bond(59, 2)", 9);
         fewSeals(terms(sentence), 2).after("pass(3)", "locker()", "pass(4)", "inspect(1)").times(2, "undo()")
             .after("pass(1)", "inspect(0)").due("seal(200, 0)", 0).due("seal(200, 1)", 4).due("seal(199, 0)", 1)
             .after("undo()").undone("tear(1)", 199).undone("inspect(1)", 0).undone("tear(0)", 198);

@@ -81,6 +81,9 @@ final class EdgesOfTexts extends Edges {
             .due("seal(199, 1)", 7).due("seal(199, 2)", 3).due("seal(200, 0)", 1).due("seal(200, 1)", 8)
             .due("seal(200, 2)", 0).due("lockerOf(1, 9)", 200).due("cents(6)", 5000).due("play()", NOT_POSSIBLE)
             .due("fault(0)", 3).due("fault(2)", LIMIT);
+        promise(29, "Does all orders of the text, which stays.").after(EMPTY).times(59, "load(0, 0, 1)")
+            .after("load(1, 1, 9)").types("r1,1,4;d29;").due("play()", 2).due("cents(3)", 28).due("bond(59, 2)", 5)
+            .types("d1;d1;").due("play()", 2).due("cents(5)", 5935).due("bond(59, 2)", 0).due("lockerOf(1, 1)", 0);
         promise(29, "They are one change, also if there are none.")
             .due("play()", 0).due("count(9)", 1).types("z1;d5;z0;").due("play()", 3).due("count(9)", 2)
             .due("undo()", 1).due("count(5)", 2).due("count(6)", 0).due("count(10)", 9).due("undo()", 0)
